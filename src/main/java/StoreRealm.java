@@ -1085,8 +1085,8 @@ public final class StoreRealm {
         private final int[] pileCost = new int[MOST_PILES];
         private final int[] pileFrom = new int[MOST_PILES];
 
-        private final int[][] days = new int[MOST_PILES][MOST_FEASTS];
-        private final int[][] given = new int[MOST_PILES][MOST_FEASTS];
+        private final int[] days = new int[MOST_PILES * MOST_FEASTS];
+        private final int[] given = new int[MOST_PILES * MOST_FEASTS];
 
         int measuresGiven;
         int measureDays;
@@ -1157,13 +1157,17 @@ public final class StoreRealm {
         private void findDays(Land land) {
             for (int pile = 0; pile < pileCount; pile++) {
                 for (int feast = 0; feast < feastCount; feast++) {
-                    given[pile][feast] = 0;
                     int way = land.days[pileTown[pile]][feastTown[feast]];
                     boolean inTime = land.month + monthsOnTheWay(way) <= feastMonth[feast];
                     boolean good = pileAge[pile] <= oldestServing[feast];
-                    days[pile][feast] = way != NONE && inTime && good ? way : NONE;
+                    days[pair(pile, feast)] = way != NONE && inTime && good ? way : NONE;
+                    given[pair(pile, feast)] = 0;
                 }
             }
+        }
+
+        private static int pair(int pile, int feast) {
+            return pile * MOST_FEASTS + feast;
         }
 
         /** Answers the feast still wanting that can be given to at least cost, or NONE. */
@@ -1193,8 +1197,9 @@ public final class StoreRealm {
             boolean better = false;
             for (int pile = 0; pile < pileCount; pile++) {
                 for (int feast = 0; feast < feastCount && pileCost[pile] < FAR; feast++) {
-                    int cost = pileCost[pile] + days[pile][feast];
-                    if (days[pile][feast] != NONE && cost < feastCost[feast]) {
+                    int way = days[pair(pile, feast)];
+                    int cost = pileCost[pile] + way;
+                    if (way != NONE && cost < feastCost[feast]) {
                         feastCost[feast] = cost;
                         feastFrom[feast] = pile;
                         better = true;
@@ -1209,8 +1214,8 @@ public final class StoreRealm {
             boolean better = false;
             for (int feast = 0; feast < feastCount; feast++) {
                 for (int pile = 0; pile < pileCount && feastCost[feast] < FAR; pile++) {
-                    int cost = feastCost[feast] - days[pile][feast];
-                    if (given[pile][feast] > 0 && cost < pileCost[pile]) {
+                    int cost = feastCost[feast] - days[pair(pile, feast)];
+                    if (given[pair(pile, feast)] > 0 && cost < pileCost[pile]) {
                         pileCost[pile] = cost;
                         pileFrom[pile] = feast;
                         better = true;
@@ -1225,10 +1230,10 @@ public final class StoreRealm {
             int feast = last;
             for (int step = 0; step <= feastCount && feast != NONE; step++) {
                 int pile = feastFrom[feast];
-                given[pile][feast] += measures;
+                given[pair(pile, feast)] += measures;
                 feast = pileFrom[pile];
                 if (feast != NONE) {
-                    given[pile][feast] -= measures;
+                    given[pair(pile, feast)] -= measures;
                 } else {
                     left[pile] -= measures;
                 }
@@ -1244,7 +1249,7 @@ public final class StoreRealm {
             for (int step = 0; step <= feastCount && feast != NONE; step++) {
                 int pile = feastFrom[feast];
                 feast = pileFrom[pile];
-                measures = Math.min(measures, feast != NONE ? given[pile][feast] : left[pile]);
+                measures = Math.min(measures, feast != NONE ? given[pair(pile, feast)] : left[pile]);
             }
             return measures;
         }

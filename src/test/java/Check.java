@@ -48,8 +48,4 @@ final class Check {
         }
         return number;
     }
-
-    static String repeat(String part, int times) {
-        return part.repeat(times);
-    }
 }

@@ -57,6 +57,8 @@ public final class KeepersTest {
         CHECK.due("untell", realm.untell(59), true);
         CHECK.due("an untold one still has its number", realm.tell(0, 0, 0, 0, 0), StoreRealm.NONE);
         CHECK.due("sixty", realm.about(5), 60);
+        CHECK.due("untell a sixty-first", realm.untell(60), false);
+        CHECK.due("the least of the last ones", realm.count(0, 0, 0, 2), 54);
     }
 
     private static void asKnown() {
@@ -113,6 +115,9 @@ public final class KeepersTest {
         realm.tell(3, 0, 0, 2, 5);
         known(realm, 2, 8, 1);
         CHECK.due("another town", realm.count(1, 0, 1, 2), 5);
+        CHECK.due("a kind that is none", realm.count(0, 3, 1, 2), StoreRealm.NONE);
+        CHECK.due("a kind that is none", realm.agree(0, 3, 1, 2), 0);
+        CHECK.due("a kind that is none", realm.count(1, -1, 1, 2), StoreRealm.NONE);
         CHECK.due("another kind", realm.count(0, 1, 1, 2), 5);
         CHECK.due("another month", realm.count(0, 0, 2, 2), 5);
     }

@@ -7,6 +7,7 @@ public final class LabourTest {
     public static void main(String[] args) {
         edges();
         likeOnes();
+        fewTens();
         lateTown();
         agreesWithTheRule();
         CHECK.close();
@@ -48,6 +49,15 @@ public final class LabourTest {
         realm.call(2);
         CHECK.due("then the last", realm.gave(2), 1);
         CHECK.due("and anew", realm.gave(0), 2);
+    }
+
+    private static void fewTens() {
+        StoreRealm realm = new StoreRealm();
+        realm.town(0, 0, 1);
+        realm.town(0, 0, 3);
+        realm.call(8);
+        CHECK.due("of one part", realm.gave(0), 2);
+        CHECK.due("of three parts", realm.gave(1), 6);
     }
 
     private static void lateTown() {

@@ -13,6 +13,8 @@ public final class OrdersTest {
         alikeTowns();
         limits();
         aFaultLeavesThings();
+        bytesBehindTheEnd();
+        ordersOneAfterTheOther();
         terms();
         randomConditions();
         cutTexts();
@@ -78,7 +80,7 @@ public final class OrdersTest {
         bad("move 1234567 maize from t0 to t1;", 1, 5);
         bad("move 1maize from t0 to t1;", 1, 5);
         bad("Move 1 maize from t0 to t1;", 1, 0);
-        bad("move 1 maizemaize from t0 to t1;", 1, 7);
+        bad("move 1 maizemaiz from t0 to t1;", 1, 7);
         bad("when 1<2or 3<4 " + LINE, 1, 7);
         bad("move 1 maize from t0 to \u00ff1;", 1, 24);
         bad("move 1 maize from t0 to\r t1;", 1, 23);
@@ -92,6 +94,13 @@ public final class OrdersTest {
         bad("move   ", 2, 7);
         bad("when", 2, 4);
         bad("maize 1", 2, 0);
+        bad("corn 1=1 " + LINE, 2, 0);
+        bad("xove 1 maize from t0 to t1;", 2, 0);
+        bad("from 1 maize from t0 to t1;", 2, 0);
+        bad("move 1 maize move t0 to t1;", 2, 13);
+        bad("move 1 maize from t0 or t1;", 2, 21);
+        bad(";".repeat(1000), 2, 0);
+        bad(" ".repeat(996) + "move", 2, 1000);
         bad("move maize", 2, 5);
         bad("move -1 maize from t0 to t1;", 2, 5);
         bad("move 1 corn from t0 to t1;", 2, 7);
@@ -111,6 +120,8 @@ public final class OrdersTest {
         bad("when 1 " + LINE, 2, 7);
         bad("when 1 < 2 < 3 " + LINE, 2, 11);
         bad("when 1 < (2) " + LINE, 2, 9);
+        bad("when 1 < " + LINE, 2, 9);
+        bad("when people < 3 " + LINE, 2, 12);
         bad("when (1) < 2 " + LINE, 2, 7);
         bad("when (1 < 2 " + LINE, 2, 12);
         bad("when 1 < 2) " + LINE, 2, 10);
@@ -139,29 +150,31 @@ public final class OrdersTest {
 
     private static void limits() {
         String shortLine = "move 1 meat from t0 to t1;";
-        good(Check.repeat(shortLine, 12), 12);
-        bad(Check.repeat(shortLine, 12) + " move", 2, 313);
-        bad(Check.repeat(shortLine, 12) + " when", 2, 313);
-        bad(Check.repeat(shortLine, 12) + " ;", 2, 313);
-        bad(Check.repeat(shortLine, 12) + " ?", 1, 313);
-        good("when 1" + Check.repeat("+1", 78) + "<1 " + LINE, 1);
-        bad("when 1" + Check.repeat("+1", 79) + "<1 " + LINE, 2, 165);
-        bad("when 1" + Check.repeat("+1", 79) + "<? " + LINE, 1, 165);
-        bad("when 1" + Check.repeat("+1", 79) + "< people t0 " + LINE, 2, 166);
-        bad("when 1" + Check.repeat("+1", 80) + "<1 " + LINE, 2, 165);
-        String half = "when 1" + Check.repeat("+1", 38) + "<1 " + LINE;
+        good(shortLine.repeat(12), 12);
+        bad(shortLine.repeat(12) + " move", 2, 313);
+        bad(shortLine.repeat(12) + " when", 2, 313);
+        bad(shortLine.repeat(12) + " ;", 2, 313);
+        bad(shortLine.repeat(12) + " ?", 1, 313);
+        good("when 1" + "+1".repeat(78) + "<1 " + LINE, 1);
+        bad("when 1" + "+1".repeat(79) + "<1 " + LINE, 2, 165);
+        bad("when 1" + "+1".repeat(79) + "<? " + LINE, 1, 165);
+        bad("when 1" + "+1".repeat(79) + "< " + LINE, 2, 166);
+        bad("when 1" + "+1".repeat(79) + "< people t0 " + LINE, 2, 166);
+        bad("when 1" + "+1".repeat(80) + "<1 " + LINE, 2, 165);
+        String half = "when 1" + "+1".repeat(38) + "<1 " + LINE;
         good(half + half, 2);
         bad(half + half + "when 1<1 " + LINE, 2, 2 * half.length() + 5);
         good(half + half + LINE, 3);
-        good("when " + Check.repeat("(", 7) + "1<1" + Check.repeat(")", 7) + LINE, 1);
-        bad("when " + Check.repeat("(", 8) + "1<1" + Check.repeat(")", 8) + LINE, 2, 13);
-        good("when " + Check.repeat("not ", 7) + "1<1 " + LINE, 1);
-        bad("when " + Check.repeat("not ", 8) + "1<1 " + LINE, 2, 37);
-        bad("when " + Check.repeat("not(", 4) + " not 1<1))))" + LINE, 2, 22);
-        good("when " + Check.repeat("not(", 3) + " not 1<1)))" + LINE, 1);
-        bad("when " + Check.repeat("(", 300), 2, 13);
-        bad("when 1<1 and " + Check.repeat("(", 8) + "?", 1, 21);
-        good("when " + Check.repeat("(1<1)and", 19) + "(1<1)" + LINE, 1);
+        good("when " + "(".repeat(7) + "1<1" + ")".repeat(7) + LINE, 1);
+        bad("when " + "(".repeat(8) + "1<1" + ")".repeat(8) + LINE, 2, 13);
+        good("when " + "not ".repeat(7) + "1<1 " + LINE, 1);
+        bad("when " + "not ".repeat(8) + "1<1 " + LINE, 2, 37);
+        bad("when " + "not(".repeat(4) + " not 1<1))))" + LINE, 2, 22);
+        good("when " + "not(".repeat(3) + " not 1<1)))" + LINE, 1);
+        bad("when " + "(".repeat(300), 2, 13);
+        bad("when " + "(".repeat(8) + ")".repeat(8) + LINE, 2, 13);
+        bad("when 1<1 and " + "(".repeat(8) + "?", 1, 21);
+        good("when " + "(1<1)and".repeat(19) + "(1<1)" + LINE, 1);
     }
 
     private static void aFaultLeavesThings() {
@@ -190,6 +203,41 @@ public final class OrdersTest {
         Check.order(other, "move 9 maize from t0 to t1; move");
         other.months(1);
         CHECK.due("the old orders rule", other.sum(3), 3);
+    }
+
+    private static void cut(String text, int length, int lines, int place) {
+        StoreRealm realm = new StoreRealm();
+        Check.lay(realm, text);
+        realm.end(length);
+        CHECK.due("[" + text + "] cut at " + length, realm.orders(), lines);
+        CHECK.due("[" + text + "] fault", realm.fault(0), lines == StoreRealm.NONE ? 2 : 0);
+        CHECK.due("[" + text + "] place", realm.fault(1), place);
+    }
+
+    /** What was on the tape behind its end is not read. */
+    private static void bytesBehindTheEnd() {
+        cut(LINE + "?", 27, 1, StoreRealm.NONE);
+        cut("move 12", 6, StoreRealm.NONE, 6);
+        cut("move 1a", 6, StoreRealm.NONE, 6);
+        cut("moves", 4, StoreRealm.NONE, 4);
+        cut("move 1 maize from t0 to t12", 26, StoreRealm.NONE, 26);
+        cut("move 1 maize from t0 to t1a", 26, StoreRealm.NONE, 26);
+        cut("move 1 maize from t0", 19, StoreRealm.NONE, 18);
+    }
+
+    /** Nothing of the orders before is left in the new ones. */
+    private static void ordersOneAfterTheOther() {
+        StoreRealm realm = realm();
+        for (int time = 0; time < 3; time++) {
+            CHECK.due("orders", Check.order(realm, "when 0=1 move 1 cloth from t0 to t1;"), 1);
+        }
+        realm.months(1);
+        CHECK.due("nothing goes", realm.sum(4), 0);
+        for (int time = 1; time <= 4; time++) {
+            CHECK.due("orders", Check.order(realm, "move 1 cloth from t0 to t1;"), 1);
+            realm.months(1);
+            CHECK.due("one goes each month", realm.sum(3), 1);
+        }
     }
 
     /** A realm in which whatever a condition can ask is another number. */
@@ -226,6 +274,12 @@ public final class OrdersTest {
             CHECK.due(terms[i] + " is above", moves(values[i] + " < " + terms[i]), false);
             CHECK.due(terms[i] + " is not below one more", moves(terms[i] + " > " + values[i] + " - 1"), true);
         }
+        StoreRealm one = realm();
+        one.put(0, 2, 3, 9);
+        one.put(0, 2, 4, 1);
+        Check.order(one, "when old t0 meat = 1 move 1 cloth from t0 to t1;");
+        one.months(1);
+        CHECK.due("an oldest lot of one measure", one.sum(4), 1);
         CHECK.due("sums go from left to right", moves("10 - 3 - 2 = 5"), true);
         CHECK.due("sums may be below 0", moves("3 - 10 < 0 - 6"), true);
         CHECK.due("and is before or", moves("1=1 or 1=1 and 1=2"), true);

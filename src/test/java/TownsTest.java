@@ -48,6 +48,8 @@ public final class TownsTest {
         CHECK.due("a ninth town", realm.town(1, 1, 1), StoreRealm.NONE);
         CHECK.due("eight towns", realm.about(1), 8);
         CHECK.due("the last one's room", realm.of(7, 0), 7);
+        CHECK.due("the last one's days to itself", realm.of(7, 17), 0);
+        CHECK.due("days to a ninth", realm.of(7, 18), StoreRealm.NONE);
     }
 
     private static void ways() {
