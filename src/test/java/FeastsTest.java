@@ -18,7 +18,11 @@ public final class FeastsTest {
             againstAllPlans(seed);
         }
         for (int seed = 0; seed < 400; seed++) {
-            againstUnitSteps(seed);
+            againstUnitSteps(seed, 3);
+        }
+        // All feasts of one kind: much that was given must be taken back.
+        for (int seed = 400; seed < 1000; seed++) {
+            againstUnitSteps(seed, 1);
         }
         CHECK.close();
     }
@@ -219,9 +223,9 @@ public final class FeastsTest {
     }
 
     /** The same by the plainest flow: a node for each lot and feast, one measure at a time. */
-    private static void againstUnitSteps(int seed) {
+    private static void againstUnitSteps(int seed, int kinds) {
         Random random = new Random(1000000 + seed);
-        Chance chance = new Chance(random, 2 + random.nextInt(7), 5 + random.nextInt(40), 3 + random.nextInt(8), 12, 3);
+        Chance chance = new Chance(random, 2 + random.nextInt(7), 5 + random.nextInt(40), 3 + random.nextInt(8), 12, kinds);
         int lots = chance.lots.size();
         int feasts = chance.feasts.size();
         int nodes = lots + feasts + 2;
