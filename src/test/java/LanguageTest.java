@@ -21,7 +21,9 @@ public final class LanguageTest {
     public static void main(String[] args) throws Exception {
         face();
         classesInside();
-        text(Files.readString(Path.of("src/main/java/StoreRealm.java")));
+        String source = Files.readString(Path.of("src/main/java/StoreRealm.java"));
+        text(source);
+        lengths(source);
         CHECK.close();
     }
 
@@ -75,6 +77,24 @@ public final class LanguageTest {
                 CHECK.due(field + " is final", !constant || Modifier.isFinal(field.getModifiers()), true);
             }
             CHECK.due(one + " has at most twenty fields", fields <= 20, true);
+            for (Method method : one.getDeclaredMethods()) {
+                CHECK.due(method + " takes at most seven", method.getParameterCount() <= 7, true);
+            }
+        }
+    }
+
+    /** A method of the class begins and ends 4 blanks in, one of a class inside it 8. */
+    private static void lengths(String source) {
+        String name = "";
+        int length = 0;
+        for (String line : source.split("\n")) {
+            boolean begins = line.matches(" {4}(?: {4})?[A-Za-z][^=;]*\\) \\{");
+            name = begins ? line.strip() : name;
+            length = begins ? 0 : length + 1;
+            if (line.matches(" {4}(?: {4})?\\}") && !name.isEmpty()) {
+                CHECK.due(name + " has at most sixty lines", length <= 60, true);
+                name = "";
+            }
         }
     }
 

@@ -23,8 +23,9 @@ final class PlainOrders {
         Pattern.compile("[0-9]{1,6}(?![0-9a-z])"), Pattern.compile("[;()<>=+-]")};
     private static final Set<String> KINDS = Set.of("maize", "cloth", "meat");
     private static final Set<String> TERMS = Set.of("month", "people", "stock", "old", "room");
-    /** What follows when the word before stands alone for its state. */
-    private static final Map<String, String> BEHIND_MOVE = Map.of("N", "KIND", "KIND", "from", "from", "T1", "T1", "to", "to", "T2", "T2", ";");
+    /** What is due behind what was due before it. */
+    private static final Map<String, String> BEHIND_MOVE =
+        Map.of("N", "KIND", "KIND", "from", "from", "T1", "T1", "to", "to", "T2", "T2", ";");
 
     final List<Line> lines = new ArrayList<>();
     int fault;
@@ -268,7 +269,10 @@ final class PlainOrders {
 
     private static String first(String text, String pattern, Rewriting rewriting) {
         Matcher found = Pattern.compile(pattern).matcher(text);
-        return found.find() ? text.substring(0, found.start()) + " " + rewriting.of(found) + " " + text.substring(found.end()) : text;
+        if (!found.find()) {
+            return text;
+        }
+        return text.substring(0, found.start()) + " " + rewriting.of(found) + " " + text.substring(found.end());
     }
 
     private static String every(String text, String pattern, Rewriting rewriting) {

@@ -19,9 +19,10 @@ final class PlainText {
         this.mostWithin = random.nextInt(4) == 0 ? 9 : 4;
     }
 
+    /** Without strays a text is good, or nearly always so, and empty if it would be too long. */
     static String text(Random random, int mostBytes, int mostStrays) {
         PlainText made = new PlainText(random);
-        int lines = mostStrays == 0 ? 1 + random.nextInt(5) : random.nextInt(6) == 0 ? 11 + random.nextInt(3) : random.nextInt(5);
+        int lines = mostStrays > 0 && random.nextInt(6) == 0 ? 11 + random.nextInt(3) : 1 + random.nextInt(5);
         for (int line = 0; line < lines; line++) {
             made.line();
         }
@@ -29,8 +30,11 @@ final class PlainText {
         for (int stray = 0; stray < strays; stray++) {
             made.disturb();
         }
-        // What is cut off can't be good.
-        return made.text.length() > mostBytes && mostStrays == 0 ? "" : made.text.substring(0, Math.min(mostBytes, made.text.length()));
+        boolean cut = made.text.length() > mostBytes;
+        if (cut && mostStrays == 0) {
+            return "";
+        }
+        return cut ? made.text.substring(0, mostBytes) : made.text.toString();
     }
 
     private void disturb() {
